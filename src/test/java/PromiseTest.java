@@ -1,0 +1,509 @@
+import java.util.NoSuchElementException;
+
+/** One method for each promise: ordinary inputs, the edges that the document names, and wrong inputs. */
+public final class PromiseTest {
+    private static final Class<IllegalArgumentException> ARGUMENT = IllegalArgumentException.class;
+    private static final Class<IllegalStateException> STATE = IllegalStateException.class;
+    private static final Class<UnsupportedOperationException> UNSUPPORTED = UnsupportedOperationException.class;
+    private static final Class<NoSuchElementException> NONE = NoSuchElementException.class;
+    private static final String FIFTY_STATES = "a".repeat(17) + ".*a....";
+    private static final String FIFTY_ONE_STATES = "a".repeat(18) + ".*a....";
+
+    private PromiseTest() {
+    }
+
+    public static void main(String[] args) {
+        newObject();
+        text();
+        clear();
+        compile();
+        compileThatFails();
+        firstLastAndSteps();
+        actionSigns();
+        where();
+        limitsOfExpressions();
+        way();
+        actions();
+        state();
+        classes();
+        feed();
+        end();
+        jump();
+        count();
+        manyCalls();
+        Check.finish();
+    }
+
+    private static void newObject() {
+        EmbedForge x = new EmbedForge();
+        Check.due("1: clear()", 0, x::clear);
+        Check.due("1: where()", -2, x::where);
+        for (int what = 0; what < 20; what++) {
+            int each = what;
+            if (what < 7 || what > 9) {
+                Check.due("1: count(" + what + ")", 0, () -> x.count(each));
+            }
+        }
+        Check.fails("1: way(0, 0)", NONE, () -> x.way(0, 0));
+        Check.fails("1: actions(0, 0)", NONE, () -> x.actions(0, 0));
+        Check.fails("1: state(0, 0)", NONE, () -> x.state(0, 0));
+        Check.fails("1: feed(0)", STATE, () -> x.feed(0));
+        Check.fails("1: end()", STATE, x::end);
+        Check.fails("1: jump(0)", STATE, () -> x.jump(0));
+        Check.fails("1: jump(-1)", STATE, () -> x.jump(-1));
+        EmbedForge other = Check.compiled("a");
+        Check.due("1: objects are apart", 0, () -> x.count(1));
+        Check.due("1: objects are apart", 2, () -> other.count(1));
+    }
+
+    private static void text() {
+        EmbedForge x = new EmbedForge();
+        Check.due("2: no character", 0, () -> x.text(0));
+        Check.due("2: one", 1, () -> x.text('a'));
+        Check.due("2: zeros left out", 3, () -> x.text(0x6200_0000_0000_6300L));
+        Check.due("2: abc, the highest first", 4, x::compile);
+        Check.due("2: a first", 1, () -> x.way(0, 0));
+        Check.due("2: then b", 2, () -> x.way(1, 1));
+        Check.due("2: then c", 3, () -> x.way(2, 2));
+        for (int c : new int[] {1, 9, 31, 127, 128, 255}) {
+            Check.fails("2: byte " + c, ARGUMENT, () -> x.text(c));
+            Check.fails("2: highest byte " + c, ARGUMENT, () -> x.text((long) c << 56 | 'a'));
+            Check.fails("2: lower byte " + c, ARGUMENT, () -> x.text((long) 'a' << 56 | c));
+        }
+        Check.fails("2: -1", ARGUMENT, () -> x.text(-1));
+        Check.due("2: nothing changed", 3, () -> x.count(0));
+        Check.due("2: 32 and 126", 5, () -> x.text(32 << 8 | 126));
+        fullText();
+    }
+
+    private static void fullText() {
+        EmbedForge x = Check.with("a ".repeat(38));
+        Check.fails("2: 81", STATE, () -> x.text(Check.pack("     ")));
+        Check.due("2: nothing changed", 76, () -> x.count(0));
+        Check.fails("2: a wrong byte before too many", ARGUMENT, () -> x.text(Check.pack("        ") | 128));
+        Check.due("2: 80", 80, () -> x.text(Check.pack("    ")));
+        Check.due("2: none more", 80, () -> x.text(0));
+        Check.fails("2: one more", STATE, () -> x.text('a'));
+        Check.due("2: still 80", 80, () -> x.count(0));
+    }
+
+    private static void clear() {
+        EmbedForge x = Check.compiled("ab");
+        Check.due("3: feed", 0, () -> x.feed(0));
+        Check.due("3: clear()", 2, x::clear);
+        Check.due("3: once more", 0, x::clear);
+        Check.due("3: no characters", 0, () -> x.count(0));
+        Check.due("3: the machine stays", 3, () -> x.count(1));
+        Check.due("3: where it is", 1, () -> x.count(4));
+        Check.due("3: a new text", 1, () -> x.text('c'));
+        Check.due("3: which is all", 2, x::compile);
+        Check.fails("3: as another", ARGUMENT, () -> compileOf(x, ")"));
+        Check.due("3: clear()", 1, x::clear);
+        Check.due("3: where() is of the latest compile", 0, x::where);
+    }
+
+    private static int compileOf(EmbedForge x, String text) {
+        x.clear();
+        Check.write(x, text);
+        return x.compile();
+    }
+
+    private static void compile() {
+        EmbedForge x = Check.with("ab|ac");
+        Check.due("4: states", 4, x::compile);
+        Check.due("4: the text stays", 5, () -> x.count(0));
+        Check.due("4: both a at once", 2, () -> x.state(1, 3));
+        Check.due("4: b is found before c", 2, () -> x.way(1, 1));
+        Check.due("4: c", 3, () -> x.way(1, 2));
+        x.feed(0);
+        Check.due("4: at 0 again", 4, x::compile);
+        Check.due("4: at 0 again", 0, () -> x.count(4));
+        Check.due("4: nothing fed", 0, () -> x.count(6));
+        EmbedForge y = new EmbedForge();
+        Check.due("4: states are found from each in order", 7, () -> compileOf(y, "ba|ab|cd"));
+        Check.due("4: a", 1, () -> y.way(0, 0));
+        Check.due("4: b", 2, () -> y.way(0, 1));
+        Check.due("4: c", 3, () -> y.way(0, 2));
+        Check.due("4: behind a", 4, () -> y.way(1, 1));
+        Check.due("4: behind b", 5, () -> y.way(2, 0));
+        Check.due("4: a set that was there", 2, () -> compileOf(y, "a+"));
+        Check.due("4: is that state", 1, () -> y.way(1, 0));
+        Check.due("4: the beginning is never come back to", 2, () -> compileOf(y, "a*"));
+        Check.due("4: but left", 1, () -> y.way(0, 0));
+        Check.due("4: a group of letters, one again", 2, () -> compileOf(y, "[dbd]"));
+        Check.due("4: no a", -1, () -> y.way(0, 0));
+        Check.due("4: b", 1, () -> y.way(0, 1));
+        Check.due("4: d", 1, () -> y.way(0, 3));
+        Check.due("4: blanks", 4, () -> compileOf(y, "  ( a  >1 * | [bc] ) + ? %2 .   "));
+        Check.due("4: 50 states", 50, () -> compileOf(y, FIFTY_STATES));
+    }
+
+    private static void compileThatFails() {
+        EmbedForge x = Check.compiled("a>1b*");
+        x.feed(0);
+        Check.fails("4: no expression", ARGUMENT, () -> compileOf(x, "ab|"));
+        stays(x);
+        Check.fails("4: 51 states", UNSUPPORTED, () -> compileOf(x, FIFTY_ONE_STATES));
+        Check.due("4: the text stays", FIFTY_ONE_STATES.length(), () -> x.count(0));
+        stays(x);
+        Check.fails("4: an empty text", ARGUMENT, () -> compileOf(x, ""));
+        Check.fails("4: blanks alone", ARGUMENT, () -> compileOf(x, "   "));
+        stays(x);
+        x.end();
+        Check.fails("4: no expression", ARGUMENT, () -> compileOf(x, ")"));
+        Check.due("4: still at its end", 1, () -> x.count(5));
+        Check.due("4: compiled, it is not", 3, () -> compileOf(x, "a>1b*"));
+        Check.due("4: at its end", 0, () -> x.count(5));
+        Check.due("4: nothing done", 0, () -> x.count(11));
+    }
+
+    private static void stays(EmbedForge x) {
+        Check.due("4: states stay", 3, () -> x.count(1));
+        Check.due("4: positions stay", 2, () -> x.count(3));
+        Check.due("4: where it is", 1, () -> x.count(4));
+        Check.due("4: fed", 1, () -> x.count(6));
+        Check.due("4: done", 1, () -> x.count(11));
+        Check.due("4: ways stay", 2, () -> x.way(1, 1));
+    }
+
+    /** The rows are: text, then for a row of letters the actions of each way, and the end actions or -1. */
+    private static void walk(String text, String letters, int... due) {
+        EmbedForge x = Check.compiled(text);
+        for (int i = 0; i < letters.length(); i++) {
+            int letter = letters.charAt(i) - 'a';
+            Check.due("4: " + text + " with " + letters + " at " + i, due[i], () -> x.feed(letter));
+        }
+        if (due[letters.length()] < 0) {
+            Check.fails("4: " + text + " ends behind " + letters, UNSUPPORTED, x::end);
+        } else {
+            Check.due("4: " + text + " ends behind " + letters, due[letters.length()], x::end);
+        }
+    }
+
+    private static void refuses(String text, String letters) {
+        EmbedForge x = Check.compiled(text);
+        int last = letters.length() - 1;
+        for (int i = 0; i < last; i++) {
+            x.feed(letters.charAt(i) - 'a');
+        }
+        Check.fails("4: " + text + " with " + letters, UNSUPPORTED, () -> x.feed(letters.charAt(last) - 'a'));
+    }
+
+    private static void firstLastAndSteps() {
+        walk("a|b*", "", 0);
+        walk("a|b", "", -1);
+        walk("a?%1|b*%2|c", "", 6);
+        walk("a?%1b", "b", 2, 0);
+        walk("ab?%1", "a", 0, 2);
+        walk("a%1b>2", "ab", 0, 6, 0);
+        walk("a?%1b?%2", "", 6);
+        walk("a?%1b", "", -1);
+        walk("(a?%1b)?", "", 0);
+        walk("(a?%1b)*", "bb", 2, 2, 0);
+        walk("a%1(b?%2)c>3", "ac", 0, 2 | 4 | 8, 0);
+        walk("(a>1)*", "aa", 2, 2, 0);
+        walk("(a%1)+", "aa", 0, 2, 2);
+        walk("a+", "", -1);
+        walk("(a?%1)+", "", 2);
+        walk("(a?%1)*", "", 2);
+        walk("(a?%1)?", "", 2);
+        walk("(a%1)?", "", 0);
+        walk("(a%1)*", "", 0);
+        walk("(a>1|a>2)", "a", 6, 0);
+        walk("((a%1)+>2)+", "aa", 4, 6, 2);
+        refuses("a?", "aa");
+        refuses("ab", "b");
+        refuses("a|b", "ab");
+        refuses("ab", "aa");
+    }
+
+    private static void actionSigns() {
+        walk("(ab)>1", "ab", 2, 0, 0);
+        walk("(ab)%1", "ab", 0, 0, 2);
+        walk("(ab)$1", "ab", 2, 2, 0);
+        walk("(ab)@1", "ab", 0, 2, 0);
+        walk("(ab?)@1", "ab", 2, 2, 0);
+        walk("(ab*)@1", "abb", 2, 2, 2, 0);
+        walk("a*>1", "aa", 2, 0, 0);
+        walk("a>1*", "aa", 2, 2, 0);
+        walk("a*$1", "aa", 2, 2, 0);
+        walk("a$1b", "ab", 2, 0, 0);
+        walk("a(bc)$1", "abc", 0, 2, 2, 0);
+        walk("ab(cd)@1", "abcd", 0, 0, 0, 2, 0);
+        walk("(a*b)$1*", "ab", 2, 2, 0);
+        walk("(ab)$1*", "aba", 2, 2, 2, -1);
+        walk("(ab)*$1", "aba", 2, 2, 2, -1);
+        walk("(ab)*>1", "aba", 2, 0, 0, -1);
+        walk("a?%1", "", 2);
+        walk("a?>1", "", 0);
+        walk("a?$1", "", 0);
+        walk("a?@1", "", 0);
+        walk("a%1?", "", 0);
+        walk("a%1?%2", "a", 0, 6);
+        walk("a>0>1@2$3%9", "a", 15, 512);
+        walk(" a >1 %2 ", "a", 2, 4);
+    }
+
+    private static void faultAt(String text, int place) {
+        EmbedForge x = Check.with(text);
+        Check.fails("5: compile of '" + text + "'", ARGUMENT, x::compile);
+        Check.due("5: where() of '" + text + "'", place, x::where);
+    }
+
+    private static void where() {
+        faultAt("", 0);
+        faultAt("  ", 2);
+        faultAt("(a", 2);
+        faultAt("a)", 1);
+        faultAt("a |", 3);
+        faultAt("a||b", 2);
+        faultAt("|a", 0);
+        faultAt("()", 1);
+        faultAt("(a|)", 3);
+        faultAt("*a", 0);
+        faultAt("e", 0);
+        faultAt("ab  e", 4);
+        faultAt("A", 0);
+        faultAt("a0", 1);
+        faultAt("a>", 2);
+        faultAt("a>x", 2);
+        faultAt("a> 1", 2);
+        faultAt("a>12", 3);
+        faultAt("a%:", 2);
+        faultAt("a@/", 2);
+        faultAt("[", 1);
+        faultAt("[]", 1);
+        faultAt("[ a]", 1);
+        faultAt("[a ]", 2);
+        faultAt("[a", 2);
+        faultAt("[.]", 1);
+        faultAt("[ae]", 2);
+        faultAt("]", 0);
+        faultAt("a~", 1);
+        EmbedForge x = Check.with("a|");
+        Check.fails("5: compile()", ARGUMENT, x::compile);
+        Check.due("5: where()", 2, x::where);
+        x.text('b');
+        Check.due("5: of the latest compile", 2, x::where);
+        Check.due("5: compile()", 3, x::compile);
+        Check.due("5: it found one", -2, x::where);
+        Check.fails("5: compile()", ARGUMENT, () -> compileOf(x, "("));
+        Check.due("5: where()", 1, x::where);
+        Check.fails("5: too many states", UNSUPPORTED, () -> compileOf(x, FIFTY_ONE_STATES));
+        Check.due("5: is an expression", -2, x::where);
+    }
+
+    private static void limitsOfExpressions() {
+        EmbedForge x = new EmbedForge();
+        Check.due("5: 8 deep", 2, () -> compileOf(x, "((((((((a))))))))"));
+        Check.due("5: 8 deep twice", 3, () -> compileOf(x, "((((((((a))))))))((((((((b))))))))"));
+        faultAt("(((((((((a)))))))))", 8);
+        faultAt("a((((((((", 9);
+        faultAt("a(((((((((", 9);
+        Check.due("5: 30 positions", 31, () -> compileOf(x, "a".repeat(30)));
+        Check.due("5: 30 positions", 30, () -> x.count(3));
+        Check.due("5: 30 with | between", 2, () -> compileOf(x, "a|".repeat(29) + "a"));
+        Check.due("5: in one state", 30, () -> x.state(1, 3));
+        Check.due("5: 30 of many letters", 31, () -> compileOf(x, "[ab]" + "a".repeat(29)));
+        faultAt("a".repeat(31), 30);
+        faultAt("a".repeat(30) + " .", 31);
+        faultAt("a".repeat(30) + "[ab]", 30);
+        faultAt("a|".repeat(30) + "a", 60);
+        faultAt("a".repeat(30) + "((b", 32);
+        faultAt("a".repeat(30) + "|", 31);
+        faultAt("a".repeat(79) + ")", 30);
+        faultAt(" ".repeat(79) + "(", 80);
+        Check.due("5: 80 characters", 2, () -> compileOf(x, "a" + "*".repeat(79)));
+        Check.due("5: 80 characters", 2, () -> compileOf(x, "a" + ">1".repeat(39) + "+"));
+    }
+
+    private static void way() {
+        EmbedForge x = Check.compiled("a(b|c)*");
+        Check.due("6: way(0, 0)", 1, () -> x.way(0, 0));
+        Check.due("6: way(0, 3)", -1, () -> x.way(0, 3));
+        Check.due("6: way(1, 1)", 2, () -> x.way(1, 1));
+        Check.due("6: way(1, 2)", 3, () -> x.way(1, 2));
+        Check.due("6: way(3, 1)", 2, () -> x.way(3, 1));
+        Check.due("6: way(3, 0)", -1, () -> x.way(3, 0));
+        Check.fails("6: way(0, 4)", ARGUMENT, () -> x.way(0, 4));
+        Check.fails("6: way(0, -1)", ARGUMENT, () -> x.way(0, -1));
+        Check.fails("6: way(4, 0)", NONE, () -> x.way(4, 0));
+        Check.fails("6: way(-1, 0)", NONE, () -> x.way(-1, 0));
+        Check.fails("6: way(4, 4)", ARGUMENT, () -> x.way(4, 4));
+        Check.fails("6: way(least, least)", ARGUMENT, () -> x.way(Integer.MIN_VALUE, Integer.MIN_VALUE));
+        Check.fails("6: way(most, 3)", NONE, () -> x.way(Integer.MAX_VALUE, 3));
+        Check.due("6: where the machine is does not matter", 0, () -> x.count(4));
+    }
+
+    private static void actions() {
+        EmbedForge x = Check.compiled("a>0(b$9|c)*");
+        Check.due("7: actions(0, 0)", 1, () -> x.actions(0, 0));
+        Check.due("7: actions(1, 1)", 512, () -> x.actions(1, 1));
+        Check.due("7: actions(1, 2)", 0, () -> x.actions(1, 2));
+        Check.due("7: no way", 0, () -> x.actions(1, 3));
+        Check.fails("7: actions(0, 4)", ARGUMENT, () -> x.actions(0, 4));
+        Check.fails("7: actions(0, -1)", ARGUMENT, () -> x.actions(0, -1));
+        Check.fails("7: actions(4, 0)", NONE, () -> x.actions(4, 0));
+        Check.fails("7: actions(-1, 0)", NONE, () -> x.actions(-1, 0));
+        Check.fails("7: actions(-1, 9)", ARGUMENT, () -> x.actions(-1, 9));
+        Check.due("7: nothing is done", 0, () -> x.count(10));
+    }
+
+    private static void state() {
+        EmbedForge x = Check.compiled("(a%3|a%4|ab)?%1");
+        Check.due("8: 0 is final", 1, () -> x.state(0, 0));
+        Check.due("8: with nothing", 2, () -> x.state(0, 1));
+        Check.due("8: its class", 0, () -> x.state(0, 2));
+        Check.due("8: it has no positions", 0, () -> x.state(0, 3));
+        Check.due("8: 1 is final", 1, () -> x.state(1, 0));
+        Check.due("8: the last ones together", 2 | 8 | 16, () -> x.state(1, 1));
+        Check.due("8: its class", 1, () -> x.state(1, 2));
+        Check.due("8: positions", 3, () -> x.state(1, 3));
+        Check.due("8: b", 1, () -> x.state(2, 3));
+        Check.fails("8: state(0, 4)", ARGUMENT, () -> x.state(0, 4));
+        Check.fails("8: state(0, -1)", ARGUMENT, () -> x.state(0, -1));
+        Check.fails("8: state(3, 0)", NONE, () -> x.state(3, 0));
+        Check.fails("8: state(-1, 3)", NONE, () -> x.state(-1, 3));
+        Check.fails("8: state(3, 4)", ARGUMENT, () -> x.state(3, 4));
+        EmbedForge y = Check.compiled("ab");
+        Check.due("8: not final", 0, () -> y.state(0, 0));
+        Check.due("8: not final", 0, () -> y.state(1, 0));
+        Check.due("8: no end actions", 0, () -> y.state(1, 1));
+        Check.due("8: final", 1, () -> y.state(2, 0));
+    }
+
+    private static void classesOf(String text, int... due) {
+        EmbedForge x = Check.compiled(text);
+        Check.due("8: states of " + text, due.length, () -> x.count(1));
+        int least = 0;
+        for (int s = 0; s < due.length; s++) {
+            int each = s;
+            least += due[s] == s ? 1 : 0;
+            Check.due("8: class of " + s + " in " + text, due[s], () -> x.state(each, 2));
+        }
+        Check.due("12: classes of " + text, least, () -> x.count(2));
+    }
+
+    private static void classes() {
+        classesOf("a*", 0, 0);
+        classesOf("a+", 0, 1);
+        classesOf("a|b", 0, 1, 1);
+        classesOf("a%1|b", 0, 1, 2);
+        classesOf("a%1|b%1", 0, 1, 1);
+        classesOf("(a|b)*(a|b)", 0, 1, 1);
+        classesOf("ac|bc", 0, 1, 1, 3, 3);
+        classesOf("ac>1|bc", 0, 1, 2, 3, 3);
+        classesOf("ac>1|bc>1", 0, 1, 1, 3, 3);
+        classesOf("acc%1|bcc", 0, 1, 2, 3, 4, 5, 6);
+        classesOf("a(a(a(a%1)*)*)*", 0, 1, 2, 3, 4);
+        classesOf("a>1*", 0, 0);
+        classesOf("a*>1", 0, 1);
+        classesOf("ad|bd?", 0, 1, 2, 3, 3);
+    }
+
+    private static void feed() {
+        EmbedForge x = Check.compiled("a>1(b$2%3)*c");
+        Check.due("9: a", 2, () -> x.feed(0));
+        Check.due("9: at 1", 1, () -> x.count(4));
+        Check.fails("9: no way", UNSUPPORTED, () -> x.feed(0));
+        Check.due("9: it stays", 1, () -> x.count(4));
+        Check.due("9: not fed", 1, () -> x.count(6));
+        Check.due("9: b", 4, () -> x.feed(1));
+        Check.due("9: b", 12, () -> x.feed(1));
+        Check.due("9: done twice", 2, () -> x.count(12));
+        Check.due("9: done once", 1, () -> x.count(13));
+        Check.fails("9: feed(4)", ARGUMENT, () -> x.feed(4));
+        Check.fails("9: feed(-1)", ARGUMENT, () -> x.feed(-1));
+        Check.due("9: c", 8, () -> x.feed(2));
+        Check.due("9: fed", 4, () -> x.count(6));
+        x.end();
+        Check.fails("9: at its end", STATE, () -> x.feed(0));
+        Check.fails("9: another letter at its end", ARGUMENT, () -> x.feed(4));
+        EmbedForge y = new EmbedForge();
+        Check.fails("9: another letter with nothing compiled", ARGUMENT, () -> y.feed(4));
+        Check.fails("9: nothing compiled", STATE, () -> y.feed(3));
+    }
+
+    private static void end() {
+        EmbedForge x = Check.compiled("(ab%1)*%2");
+        x.feed(0);
+        Check.fails("10: not final", UNSUPPORTED, x::end);
+        Check.due("10: not at its end", 0, () -> x.count(5));
+        x.feed(1);
+        Check.due("10: end()", 6, x::end);
+        Check.due("10: at its end", 1, () -> x.count(5));
+        Check.due("10: the state is the same", 2, () -> x.count(4));
+        Check.due("10: no letter", 2, () -> x.count(6));
+        Check.due("10: done", 1, () -> x.count(11));
+        Check.due("10: done", 1, () -> x.count(12));
+        Check.fails("10: at its end", STATE, x::end);
+        Check.due("10: not done again", 1, () -> x.count(12));
+        x.compile();
+        Check.due("10: nothing", 4, x::end);
+        EmbedForge y = new EmbedForge();
+        Check.fails("10: nothing compiled", STATE, y::end);
+    }
+
+    private static void jump() {
+        EmbedForge x = Check.compiled("a>1b>2c?%3");
+        x.feed(0);
+        x.feed(1);
+        Check.due("11: jump(1)", 2, () -> x.jump(1));
+        Check.due("11: at 1", 1, () -> x.count(4));
+        Check.due("11: nothing fed", 0, () -> x.count(6));
+        Check.due("11: nothing done", 0, () -> x.count(11));
+        Check.due("11: it goes on from there", 4, () -> x.feed(1));
+        Check.due("11: fed since", 1, () -> x.count(6));
+        x.end();
+        Check.due("11: done since", 1, () -> x.count(13));
+        Check.fails("11: no state 4", NONE, () -> x.jump(4));
+        Check.fails("11: no state -1", NONE, () -> x.jump(-1));
+        Check.due("11: still at its end", 1, () -> x.count(5));
+        Check.due("11: still done", 1, () -> x.count(13));
+        Check.due("11: from its end", 2, () -> x.jump(3));
+        Check.due("11: not at its end", 0, () -> x.count(5));
+        Check.due("11: nothing done", 0, () -> x.count(13));
+        Check.due("11: end()", 8, x::end);
+        Check.due("11: to the beginning", 3, () -> x.jump(0));
+        Check.fails("11: nothing compiled", STATE, () -> new EmbedForge().jump(0));
+        Check.fails("11: nothing compiled, no such state", STATE, () -> new EmbedForge().jump(7));
+    }
+
+    private static void count() {
+        EmbedForge x = Check.compiled("a$0*|b$9 ");
+        x.feed(0);
+        x.feed(0);
+        x.feed(0);
+        int[] due = {9, 3, 3, 2, 1, 0, 3};
+        for (int what = 0; what < due.length; what++) {
+            int each = what;
+            Check.due("12: count(" + what + ")", due[what], () -> x.count(each));
+        }
+        for (int n = 0; n < 10; n++) {
+            int each = n;
+            Check.due("12: count(10 + " + n + ")", n == 0 ? 3 : 0, () -> x.count(10 + each));
+        }
+        x.jump(0);
+        x.feed(1);
+        Check.due("12: action 9", 1, () -> x.count(19));
+        EmbedForge y = new EmbedForge();
+        for (int what : new int[] {-1, 7, 8, 9, 20, Integer.MIN_VALUE, Integer.MAX_VALUE}) {
+            Check.fails("12: count(" + what + ")", ARGUMENT, () -> x.count(what));
+            Check.fails("12: count(" + what + "), nothing compiled", ARGUMENT, () -> y.count(what));
+        }
+        Check.write(y, "abc");
+        Check.due("12: characters, nothing compiled", 3, () -> y.count(0));
+        Check.fails("12: another text", ARGUMENT, () -> compileOf(x, "abc|"));
+        Check.due("12: its characters", 4, () -> x.count(0));
+        Check.due("12: positions of the machine", 2, () -> x.count(3));
+    }
+
+    /** 512 calls on one object, each compile as heavy as can be, leave nothing behind. */
+    private static void manyCalls() {
+        EmbedForge x = Check.with(FIFTY_STATES);
+        for (int call = 4; call < 510; call++) {
+            Check.due("4: again and again", 50, x::compile);
+        }
+        Check.due("4: the last", 0, () -> x.count(4));
+    }
+}
