@@ -11,13 +11,14 @@ public final class EmbedForge {
     private static final int ACTION_COUNT = 10;
     private static final int ALL_LETTERS = 15;
     private static final int ALL_POSITIONS = -1;
+    /** Stands behind the last character; no text has it. */
+    private static final char NO_CHARACTER = 0;
     private static final int NO_WAY = -1;
     private static final int NO_FAULT = -2;
 
     private final char[] row;
     private int length;
     private int fault;
-    private final Net net;
     private final Parser parser;
     private final Walk walk;
     private Machine machine;
@@ -28,8 +29,7 @@ public final class EmbedForge {
         row = new char[MAX_TEXT];
         length = 0;
         fault = NO_FAULT;
-        net = new Net();
-        parser = new Parser(net);
+        parser = new Parser();
         walk = new Walk();
         machine = new Machine();
         spare = new Machine();
@@ -65,7 +65,7 @@ public final class EmbedForge {
             throw new IllegalArgumentException();
         }
         fault = NO_FAULT;
-        if (!spare.build(net, parser.whole())) {
+        if (!spare.build(parser.net, parser.whole())) {
             throw new UnsupportedOperationException();
         }
         Machine old = machine;
@@ -291,28 +291,30 @@ public final class EmbedForge {
             e.nothing = e.empty ? e.nothing | f.nothing : 0;
         }
 
-        void repeat(Part e) {
-            link(e.last, e.first);
+        /** For * + and ?. */
+        void repeat(Part e, char sign) {
+            if (sign != '?') {
+                link(e.last, e.first);
+            }
+            if (sign != '+') {
+                e.empty = true;
+            }
         }
 
+        /** For > @ $ and %. */
         void act(Part e, char sign, int action) {
             int bit = 1 << action;
-            switch (sign) {
-                case '>':
-                    give(firstActions, e.first, bit);
-                    break;
-                case '%':
-                    give(lastActions, e.last, bit);
-                    e.nothing |= e.empty ? bit : 0;
-                    break;
-                case '$':
-                    give(firstActions, e.first, bit);
-                    giveSteps(e.from, ALL_POSITIONS, bit);
-                    break;
-                default:
-                    give(firstActions, e.first & e.last, bit);
-                    giveSteps(e.from, e.last, bit);
-                    break;
+            if (sign == '>') {
+                give(firstActions, e.first, bit);
+            } else if (sign == '@') {
+                give(firstActions, e.first & e.last, bit);
+                giveSteps(e.from, e.last, bit);
+            } else if (sign == '$') {
+                give(firstActions, e.first, bit);
+                giveSteps(e.from, ALL_POSITIONS, bit);
+            } else {
+                give(lastActions, e.last, bit);
+                e.nothing |= e.empty ? bit : 0;
             }
         }
 
@@ -330,17 +332,12 @@ public final class EmbedForge {
 
         private void link(int lasts, int firsts) {
             for (int x = 0; x < positions; x++) {
-                if ((lasts >> x & 1) != 0) {
-                    linkFrom(x, firsts);
-                }
-            }
-        }
-
-        private void linkFrom(int x, int firsts) {
-            steps[x] |= firsts;
-            for (int y = 0; y < positions; y++) {
-                if ((firsts >> y & 1) != 0) {
-                    stepActions[x * MAX_POSITIONS + y] |= lastActions[x] | firstActions[y];
+                int reached = (lasts >> x & 1) != 0 ? firsts : 0;
+                steps[x] |= reached;
+                for (int y = 0; y < positions; y++) {
+                    if ((reached >> y & 1) != 0) {
+                        stepActions[x * MAX_POSITIONS + y] |= lastActions[x] | firstActions[y];
+                    }
                 }
             }
         }
@@ -380,7 +377,7 @@ public final class EmbedForge {
      * character at hand, so the place where it stops is the one with which no expression goes on.
      */
     private static final class Parser {
-        private final Net net;
+        private final Net net = new Net();
         /** One part of each kind for each depth: what lies deeper never touches those above. */
         private final Part[] expressions = new Part[MAX_DEPTH + 1];
         private final Part[] terms = new Part[MAX_DEPTH + 1];
@@ -389,8 +386,7 @@ public final class EmbedForge {
         private int length;
         private int at;
 
-        Parser(Net net) {
-            this.net = net;
+        Parser() {
             row = new char[0];
             for (int depth = 0; depth <= MAX_DEPTH; depth++) {
                 expressions[depth] = new Part();
@@ -404,11 +400,7 @@ public final class EmbedForge {
             length = Math.min(howMany, characters.length);
             at = 0;
             net.restart();
-            if (!readExpression(0)) {
-                return false;
-            }
-            skipBlanks();
-            return at == length;
+            return readExpression(0) && next() == NO_CHARACTER;
         }
 
         int place() {
@@ -452,35 +444,19 @@ public final class EmbedForge {
             if (!readAtom(depth)) {
                 return false;
             }
-            Part factor = factors[depth];
             for (int more = 0; more < MAX_TEXT && isSign(next()); more++) {
-                if (!readSign(factor)) {
+                char sign = here();
+                at++;
+                if (isRepeat(sign)) {
+                    net.repeat(factors[depth], sign);
+                } else if (!readAction(factors[depth], sign)) {
                     return false;
                 }
             }
             return true;
         }
 
-        private boolean readSign(Part factor) {
-            char sign = here();
-            at++;
-            switch (sign) {
-                case '*':
-                    net.repeat(factor);
-                    factor.empty = true;
-                    return true;
-                case '+':
-                    net.repeat(factor);
-                    return true;
-                case '?':
-                    factor.empty = true;
-                    return true;
-                default:
-                    return readDigit(factor, sign);
-            }
-        }
-
-        private boolean readDigit(Part factor, char sign) {
+        private boolean readAction(Part factor, char sign) {
             char digit = here();
             if (digit < '0' || digit > '9') {
                 return false;
@@ -534,20 +510,16 @@ public final class EmbedForge {
             return letters;
         }
 
-        /** The character at hand; 0, which no text has, behind the last. */
         private char here() {
-            return at < length ? row[at] : 0;
+            return at < length ? row[at] : NO_CHARACTER;
         }
 
+        /** The character at hand where blanks may stand before it. */
         private char next() {
-            skipBlanks();
-            return here();
-        }
-
-        private void skipBlanks() {
             while (at < length && row[at] == ' ') {
                 at++;
             }
+            return at < length ? row[at] : NO_CHARACTER;
         }
 
         private static boolean isLetter(char c) {
@@ -562,8 +534,12 @@ public final class EmbedForge {
             return isLetter(c) || c == '.' || c == '[' || c == '(';
         }
 
+        private static boolean isRepeat(char c) {
+            return c == '*' || c == '+' || c == '?';
+        }
+
         private static boolean isSign(char c) {
-            return c == '*' || c == '+' || c == '?' || c == '>' || c == '@' || c == '$' || c == '%';
+            return isRepeat(c) || c == '>' || c == '@' || c == '$' || c == '%';
         }
     }
 

@@ -30,6 +30,7 @@ public final class PromiseTest {
         end();
         jump();
         count();
+        nothingLeftBehind();
         manyCalls();
         Check.finish();
     }
@@ -234,6 +235,13 @@ public final class PromiseTest {
         walk("(ab)$1*", "aba", 2, 2, 2, -1);
         walk("(ab)*$1", "aba", 2, 2, 2, -1);
         walk("(ab)*>1", "aba", 2, 0, 0, -1);
+        walk("(ab)@1*", "aba", 0, 2, 0, -1);
+        walk("(ab)(cd)$1", "abcd", 0, 0, 2, 2, 0);
+        walk("(a%1b)$2", "ab", 4, 6, 0);
+        walk("(ab*)%1c", "abc", 0, 0, 2, 0);
+        walk("ab>1|ab>2", "ab", 0, 6, 0);
+        walk("a?%1|b?c", "c", 0, 0);
+        walk("a?%1%2", "", 6);
         walk("a?%1", "", 2);
         walk("a?>1", "", 0);
         walk("a?$1", "", 0);
@@ -496,6 +504,37 @@ public final class PromiseTest {
         Check.fails("12: another text", ARGUMENT, () -> compileOf(x, "abc|"));
         Check.due("12: its characters", 4, () -> x.count(0));
         Check.due("12: positions of the machine", 2, () -> x.count(3));
+    }
+
+    /** What an earlier text, net or machine left in the rows must not show. */
+    private static void nothingLeftBehind() {
+        EmbedForge x = new EmbedForge();
+        Check.due("4: with actions", 4, () -> compileOf(x, "(a>1b%2c)*$3@4%5"));
+        Check.due("4: without", 4, () -> compileOf(x, "(abc)*"));
+        for (int s = 0; s < 4; s++) {
+            int from = s;
+            for (int letter = 0; letter < 4; letter++) {
+                int each = letter;
+                Check.due("4: no actions", 0, () -> x.actions(from, each));
+            }
+            Check.due("4: no end actions", 0, () -> x.state(from, 1));
+        }
+        for (int again = 0; again < 3; again++) {
+            Check.due("4: all apart", 5, () -> compileOf(x, "acc%1a"));
+            Check.due("12: classes", 5, () -> x.count(2));
+            Check.due("4: then alike", 5, () -> compileOf(x, "a*b*c*d*"));
+            Check.due("12: classes", 4, () -> x.count(2));
+            Check.due("8: class", 0, () -> x.state(1, 2));
+        }
+        Check.due("4: a digit", 2, () -> compileOf(x, "a>1"));
+        Check.fails("4: without it", ARGUMENT, () -> compileOf(x, "a>"));
+        Check.due("5: at the end", 2, x::where);
+        Check.due("4: letters", 2, () -> compileOf(x, "[abc]"));
+        Check.fails("4: fewer", ARGUMENT, () -> compileOf(x, "[a"));
+        Check.due("5: at the end", 2, x::where);
+        Check.due("4: a group", 3, () -> compileOf(x, "(ab)"));
+        Check.fails("4: not closed", ARGUMENT, () -> compileOf(x, "(ab"));
+        Check.due("5: at the end", 3, x::where);
     }
 
     /** 512 calls on one object, each compile as heavy as can be, leave nothing behind. */
