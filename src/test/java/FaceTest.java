@@ -6,7 +6,7 @@ import java.lang.reflect.Modifier;
 import java.util.Set;
 import java.util.TreeSet;
 
-/** Section 'The public face': the class has what stands there, and shows nothing else. */
+/** Section 'The public face': the class has what stands there, and shows nothing else; members by LANGUAGE.md. */
 public final class FaceTest {
     private static final String[] FACE = {
         "public EmbedForge()",
@@ -38,7 +38,30 @@ public final class FaceTest {
             Check.same(inside.getName(), "hidden and static",
                     (hidden ? "hidden" : "shown") + (Modifier.isStatic(inside.getModifiers()) ? " and static" : ""));
         }
+        hiddenMembers(EmbedForge.class);
+        for (Class<?> inside : EmbedForge.class.getDeclaredClasses()) {
+            hiddenMembers(inside);
+        }
         Check.finish();
+    }
+
+    private static void hiddenMembers(Class<?> each) {
+        Check.about("LANGUAGE.md, rule 1", "No private method bears the name of a public one.");
+        Set<String> publicNames = new TreeSet<>();
+        for (Method method : EmbedForge.class.getMethods()) {
+            publicNames.add(method.getName());
+        }
+        for (Method method : each.getDeclaredMethods()) {
+            if (!Modifier.isPublic(method.getModifiers())) {
+                Check.same(method.toString(), "a name of its own",
+                        publicNames.contains(method.getName()) ? "the name of a public one" : "a name of its own");
+            }
+        }
+        Check.about("LANGUAGE.md, rule 5", "Static fields are final");
+        for (Field field : each.getDeclaredFields()) {
+            boolean changes = Modifier.isStatic(field.getModifiers()) && !Modifier.isFinal(field.getModifiers());
+            Check.same(field.toString(), "no static state", changes ? "static and not final" : "no static state");
+        }
     }
 
     private static TreeSet<String> shown() {
